@@ -45,18 +45,12 @@ public final class Ruleengine {
     private static final int VARIABLE_U = 16;
     private static final int BLANK = 22;
     private static final int BANG = 23;
-    private static final int STAR = 25;
-    private static final int HASH = 26;
     private static final int PLUS = 27;
     private static final int EQUAL = 28;
-    private static final int UNLIKE = 29;
     private static final int LESS = 30;
     private static final int COMMA = 31;
     private static final int ARROW = 32;
     private static final int POINT = 33;
-    private static final int MINUS = 34;
-    private static final int DOLLAR = 35;
-    private static final int PERCENT = 36;
     private static final int CURL = 37;
     private static final int EMPTIES = 38;
     private static final int BACK = 39;
@@ -143,7 +137,8 @@ public final class Ruleengine {
         remember();
         state.rule[slot] = reader.handOver(urgency, module);
         matches.clear(slot);
-        return matches.countIn(slot);
+        matches.refresh(slot);
+        return matches.foundCount[slot];
     }
 
     public int drop(int slot) throws IndexOutOfBoundsException {
@@ -161,12 +156,16 @@ public final class Ruleengine {
             throw new IllegalArgumentException("no such fact");
         }
         asked.shape(kind, a, b, c);
-        int place = state.placeAlike(asked);
-        if (place == NONE && state.freePlace() == NONE) {
+        if (state.placeAlike(asked) == NONE && state.freePlace() == NONE) {
             return FULL;
         }
         remember();
-        int number = work.bringTold(asked);
+        int place = work.bring(asked);
+        if (place == NONE) {
+            return FULL;
+        }
+        state.fact[place].isTold = true;
+        int number = state.fact[place].number;
         work.settle();
         return number;
     }
@@ -311,7 +310,9 @@ public final class Ruleengine {
             case 5:
                 layers.measure(state.rule);
                 return layers.ofRule[slot];
-            case 6: return matches.countIn(slot);
+            case 6:
+                matches.refresh(slot);
+                return matches.foundCount[slot];
             case 7: return state.doneIn(slot);
             default: return Integer.bitCount(state.putBy(slot));
         }
@@ -324,16 +325,18 @@ public final class Ruleengine {
         if (k < 1 || k > state.rule[slot].conditionCount) {
             throw new IllegalArgumentException("it has not so many conditions");
         }
-        return matches.partialCount(slot, k);
+        matches.refresh(slot);
+        return matches.partial[slot][k - 1];
     }
 
     public int stuck(int slot) throws IndexOutOfBoundsException {
         if (!hasRule(slot)) {
             throw new IndexOutOfBoundsException("no such slot, or no rule in it");
         }
+        matches.refresh(slot);
         int reached = 0;
         for (int k = 1; k <= state.rule[slot].conditionCount; k++) {
-            if (matches.partialCount(slot, k) > 0) {
+            if (matches.partial[slot][k - 1] > 0) {
                 reached = k;
             }
         }
@@ -461,9 +464,10 @@ public final class Ruleengine {
     }
 
     public boolean isSound() {
+        int listed = matches.listAgenda();
         return isWithinBounds() && state.isWithinBounds() && state.isUnlike()
                 && work.rankAll() == state.standing() && matches.isDoneHeld()
-                && matches.isAllFound() && matches.isOrdered();
+                && matches.isAllFound() && listed == matches.agendaCount() && matches.isOrdered(listed);
     }
 
     public long digest() {
@@ -486,7 +490,7 @@ public final class Ruleengine {
         for (int kind = 0; kind < KINDS; kind++) {
             d = d * 31 + layer(kind);
         }
-        d = d * 31 + fault();
+        d = d * 31 + reader.read();
         d = d * 31 + could(0, 1, 0, 0, 1);
         d = d * 31 + could(1, 1, 2, 0, 1);
         line.setLength(0);
@@ -692,7 +696,7 @@ public final class Ruleengine {
 
     /** What a digit or a variable stands for. */
     private static int worthOf(int side, int[] values) {
-        return isVariable(side) ? values[side - VARIABLE_U] : side;
+        return side >= VARIABLE_U && side < BLANK ? values[side - VARIABLE_U] : side;
     }
 
     /** A fact; without a kind it is a free place for one. */
@@ -869,7 +873,7 @@ public final class Ruleengine {
         }
 
         int placeIn(long signature, int h) {
-            return numberIn(signature, hasAt[h]) % STANDING_MOST;
+            return (int) (signature >> 8 * hasAt[h]) & 15;
         }
 
         /** The places of the facts of a match in one number, those of the first HAS weighing most. */
@@ -1128,27 +1132,20 @@ public final class Ruleengine {
             poolSize = 0;
         }
 
-        /** What is done with each match. */
-        abstract void meet(Rule rule, long signature);
+        /** What is done with each match; its values are at hand then. */
+        abstract void meet(Rule rule, int key);
 
-        void seek(Rule rule) {
-            for (int c = 0; c < CONDITIONS_MOST; c++) {
-                reached[c] = 0;
-            }
-            extend(rule, 0, 0);
-        }
-
-        private void extend(Rule rule, int c, long signature) {
+        /** Goes on from a partial match of the conditions ahead of c, whose places make the key. */
+        void extend(Rule rule, int c, int key) {
             if (c >= rule.conditionCount) {
-                meet(rule, signature);
+                meet(rule, key);
                 return;
             }
             Part part = rule.condition[c];
             if (part.sort != HAS) {
-                int number = outcome(part);
-                if (number != NONE) {
+                if (outcome(part) != NONE) {
                     reached[c]++;
-                    extend(rule, c + 1, signature | (long) number << 8 * c);
+                    extend(rule, c + 1, key);
                 }
                 return;
             }
@@ -1156,7 +1153,7 @@ public final class Ruleengine {
                 if (part.atom.fits(pool[p], values)) {
                     part.atom.bind(pool[p], values);
                     reached[c]++;
-                    extend(rule, c + 1, signature | (long) p << 8 * c);
+                    extend(rule, c + 1, key << 4 | p & 15);
                 }
             }
         }
@@ -1197,12 +1194,12 @@ public final class Ruleengine {
     private static final class Matches extends Search {
         final int[] placeByAge = new int[STANDING_MOST];
         int aged;
+        final int[] foundCount = new int[SLOTS];
+        final int[][] partial = new int[SLOTS][CONDITIONS_MOST];
         private final int[] age = new int[STANDING_MOST];
         private boolean isAged;
         private final int[][] found = new int[SLOTS][0];
-        private final int[] foundCount = new int[SLOTS];
         private final byte[][] isDone = new byte[SLOTS][0];
-        private final int[][] partial = new int[SLOTS][CONDITIONS_MOST];
         private final boolean[] isFresh = new boolean[SLOTS];
         private int[] agenda = new int[STANDING_MOST];
         private int slot;
@@ -1212,12 +1209,12 @@ public final class Ruleengine {
             poolSize = STANDING_MOST;
         }
 
-        void meet(Rule rule, long signature) {
+        void meet(Rule rule, int key) {
             int count = foundCount[slot];
             if (count >= found[slot].length) {
                 found[slot] = Arrays.copyOf(found[slot], 2 * count + 4);
             }
-            found[slot][count] = rule.keyOf(signature);
+            found[slot][count] = key;
             foundCount[slot] = count + 1;
         }
 
@@ -1263,7 +1260,8 @@ public final class Ruleengine {
             }
         }
 
-        private void refresh(int of) {
+        /** Looks for the matches in that slot anew, if something has changed for them. */
+        void refresh(int of) {
             Rule rule = state.rule[of];
             if (isFresh[of] && rule != null) {
                 return;
@@ -1271,20 +1269,11 @@ public final class Ruleengine {
             slot = of;
             foundCount[of] = 0;
             if (rule != null) {
-                seek(rule);
+                Arrays.fill(reached, 0);
+                extend(rule, 0, 0);
                 System.arraycopy(reached, 0, partial[of], 0, CONDITIONS_MOST);
             }
             isFresh[of] = true;
-        }
-
-        int countIn(int of) {
-            refresh(of);
-            return foundCount[of];
-        }
-
-        int partialCount(int of, int k) {
-            refresh(of);
-            return k >= 1 && k <= CONDITIONS_MOST ? partial[of][k - 1] : 0;
         }
 
         int agendaCount() {
@@ -1374,13 +1363,18 @@ public final class Ruleengine {
             return n > 0 && n < count ? agenda[n] : NONE;
         }
 
-        private int listAgenda() {
-            int count = 0;
-            int room = Math.max(0, agendaCount());
+        /** Puts all of the agenda into its order; answers how many there are. */
+        int listAgenda() {
+            int room = 0;
+            for (int s = 0; s < SLOTS; s++) {
+                refresh(s);
+                room += foundCount[s];
+            }
             if (agenda.length < room) {
                 agenda = new int[2 * room];
             }
             ageAll();
+            int count = 0;
             for (int s = 0; s < SLOTS; s++) {
                 Rule rule = state.rule[s];
                 for (int i = 0; rule != null && i < foundCount[s]; i++) {
@@ -1466,14 +1460,14 @@ public final class Ruleengine {
             return true;
         }
 
-        boolean isOrdered() {
-            int count = listAgenda();
-            for (int i = 1; i < count; i++) {
+        /** Whether so many of the listed agenda are in order. */
+        boolean isOrdered(int listed) {
+            for (int i = 1; i < listed && i < agenda.length; i++) {
                 if (agenda[i - 1] >= agenda[i]) {
                     return false;
                 }
             }
-            return count == agendaCount();
+            return true;
         }
     }
 
@@ -1500,7 +1494,7 @@ public final class Ruleengine {
                 poolSize = gathered;
                 for (int s = 0; s < SLOTS && !isEnough; s++) {
                     if (state.rule[s] != null) {
-                        seek(state.rule[s]);
+                        extend(state.rule[s], 0, 0);
                     }
                 }
             }
@@ -1510,17 +1504,18 @@ public final class Ruleengine {
             return isSeen[fact.shapeNumber()] == 1;
         }
 
-        void meet(Rule rule, long signature) {
+        void meet(Rule rule, int key) {
             for (int a = 0; a < rule.actCount && !isEnough; a++) {
                 if (rule.act[a].sort == PUT) {
-                    shape().shapeBy(rule.act[a].atom, values);
-                    keep();
+                    Fact next = room();
+                    next.shapeBy(rule.act[a].atom, values);
+                    keep(next.shapeNumber());
                 }
             }
         }
 
         /** The place for the next one; it is gathered only by keep(). */
-        private Fact shape() {
+        private Fact room() {
             int at = Math.min(gathered, COULD_MOST);
             if (pool[at] == null) {
                 pool[at] = new Fact();
@@ -1529,14 +1524,13 @@ public final class Ruleengine {
         }
 
         private void add(Fact fact) {
-            shape().copyFrom(fact);
-            keep();
+            room().copyFrom(fact);
+            keep(fact.shapeNumber());
         }
 
-        private void keep() {
-            int number = pool[Math.min(gathered, COULD_MOST)].shapeNumber();
-            if (isSeen[number] == 0) {
-                isSeen[number] = 1;
+        private void keep(int shapeNumber) {
+            if (isSeen[shapeNumber] == 0) {
+                isSeen[shapeNumber] = 1;
                 gathered++;
                 isEnough = gathered > COULD_MOST;
             }
@@ -1823,7 +1817,7 @@ public final class Ruleengine {
         }
 
         /** The place of that fact, which comes if it does not stand; NONE if there is no room for it. */
-        private int bring(Fact shape) {
+        int bring(Fact shape) {
             int place = state.placeAlike(shape);
             if (place != NONE) {
                 return place;
@@ -1841,16 +1835,6 @@ public final class Ruleengine {
             touch(fact.kind);
             leave(state.overMost(fact.kind));
             return place;
-        }
-
-        /** The number of that fact, which is told now; FULL if there is no room for it. */
-        int bringTold(Fact shape) {
-            int place = bring(shape);
-            if (place == NONE) {
-                return FULL;
-            }
-            state.fact[place].isTold = true;
-            return state.fact[place].number;
         }
 
         /** The facts in these places go; answers how many. */
@@ -2005,7 +1989,10 @@ public final class Ruleengine {
                     break;
                 case TELL:
                     made.shapeBy(act.atom, values);
-                    bringTold(made);
+                    int told = bring(made);
+                    if (told != NONE) {
+                        state.fact[told].isTold = true;
+                    }
                     break;
                 case TAKE:
                     int taken = act.at < HAS_MOST ? state.placeOf(numbers[act.at]) : NONE;

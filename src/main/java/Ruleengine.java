@@ -23,6 +23,7 @@ public final class Ruleengine {
     private static final int PASS_MOST = 99;
 
     private static final int SLOTS = 6;
+    private static final int ALL_SLOTS = 63;
     private static final int MODULES = 3;
     private static final int URGENCY_MOST = 9;
     private static final int CONDITIONS_MOST = 5;
@@ -136,7 +137,7 @@ public final class Ruleengine {
         }
         remember();
         state.rule[slot] = reader.handOver(urgency, module);
-        matches.clear(slot);
+        matches.renew(slot);
         matches.refresh(slot);
         return matches.foundCount[slot];
     }
@@ -146,8 +147,9 @@ public final class Ruleengine {
             throw new IndexOutOfBoundsException("no such slot, or no rule in it");
         }
         remember();
+        matches.markAll(1 << slot, false);
         state.rule[slot] = null;
-        matches.clear(slot);
+        matches.renew(slot);
         return work.settle();
     }
 
@@ -262,9 +264,11 @@ public final class Ruleengine {
         pastCount--;
         State last = past[(pastStart + pastCount) % PAST_MOST];
         if (last != null) {
+            matches.markAll(ALL_SLOTS, false);
             state.copyFrom(last);
+            matches.renewAll();
+            matches.markAll(ALL_SLOTS, true);
         }
-        matches.restart();
         return pastCount;
     }
 
@@ -428,12 +432,8 @@ public final class Ruleengine {
         if (!isShape(kind, a, b, c) || rounds < 0 || rounds > ROUNDS_MOST) {
             throw new IllegalArgumentException("no such fact, or rounds are not 0 to 3");
         }
-        asked.shape(kind, a, b, c);
         coulds.gather(rounds);
-        if (coulds.isEnough) {
-            return MANY;
-        }
-        return coulds.isAmong(asked) ? 1 : 0;
+        return couldBe(kind, a, b, c);
     }
 
     public String written() {
@@ -491,12 +491,22 @@ public final class Ruleengine {
             d = d * 31 + layer(kind);
         }
         d = d * 31 + reader.read();
-        d = d * 31 + could(0, 1, 0, 0, 1);
-        d = d * 31 + could(1, 1, 2, 0, 1);
+        coulds.gather(1);
+        d = d * 31 + couldBe(0, 1, 0, 0);
+        d = d * 31 + couldBe(1, 1, 2, 0);
         line.setLength(0);
         writeWritten();
         d = d * 31 + line.length();
         return d * 31 + (isSound() ? 1 : 0);
+    }
+
+    /** By what was gathered last. */
+    private int couldBe(int kind, int a, int b, int c) {
+        if (coulds.isEnough) {
+            return MANY;
+        }
+        asked.shape(kind, a, b, c);
+        return coulds.isAmong(asked) ? 1 : 0;
     }
 
     private long withFact(long before, int place) {
@@ -1218,27 +1228,30 @@ public final class Ruleengine {
             foundCount[slot] = count + 1;
         }
 
-        /** For a rule that is put in or out. */
-        void clear(int changed) {
+        /** For a rule that is put in or out; none of its matches may be marked. */
+        void renew(int changed) {
             Rule rule = state.rule[changed];
             isFresh[changed] = false;
-            Arrays.fill(isDone[changed], (byte) 0);
             if (rule != null && isDone[changed].length < rule.keyCount()) {
                 isDone[changed] = new byte[rule.keyCount()];
             }
         }
 
         /** For a state that has been put back. */
-        void restart() {
+        void renewAll() {
             isAged = false;
             for (int s = 0; s < SLOTS; s++) {
-                clear(s);
+                renew(s);
             }
+        }
+
+        /** Marks all done matches of the rules in these slots, or takes their marks away. */
+        void markAll(int slots, boolean isDoneNow) {
             for (int i = 0; i < state.doneCount; i++) {
                 int s = State.slotIn(state.done[i]);
                 Rule rule = state.rule[s];
-                if (rule != null) {
-                    mark(s, rule.keyOf(State.signatureIn(state.done[i])), true);
+                if (rule != null && (slots >> s & 1) == 1) {
+                    mark(s, rule.keyOf(State.signatureIn(state.done[i])), isDoneNow);
                 }
             }
         }
@@ -1357,7 +1370,7 @@ public final class Ruleengine {
         /** The order of the match on the agenda with so many ahead of it, or NONE. */
         int nth(int n) {
             if (n == 0) {
-                return best((1 << SLOTS) - 1);
+                return best(ALL_SLOTS);
             }
             int count = listAgenda();
             return n > 0 && n < count ? agenda[n] : NONE;
@@ -1445,7 +1458,8 @@ public final class Ruleengine {
                 Rule rule = state.rule[s];
                 refresh(s);
                 int count = 0;
-                for (int key = 0; rule != null && key < rule.keyCount(); key++) {
+                int keyCount = rule == null ? 0 : rule.keyCount();
+                for (int key = 0; key < keyCount; key += keysToNext(key, keyCount)) {
                     if (signature(rule, key) != NONE) {
                         if (count >= foundCount[s] || found[s][count] != key) {
                             return false;
@@ -1458,6 +1472,16 @@ public final class Ruleengine {
                 }
             }
             return true;
+        }
+
+        /** How far to the next key; all with the same free place are passed over. */
+        private int keysToNext(int key, int keyCount) {
+            for (int weight = keyCount >> 4; weight > 0; weight >>= 4) {
+                if (pool[key / weight & 15].kind == NONE) {
+                    return weight;
+                }
+            }
+            return 1;
         }
 
         /** Whether so many of the listed agenda are in order. */
@@ -1482,9 +1506,11 @@ public final class Ruleengine {
 
         /** Gathers all that could be in so many rounds; with more than there may be, it is enough. */
         void gather(int rounds) {
+            for (int i = 0; i < gathered; i++) {
+                isSeen[pool[i].shapeNumber()] = 0;
+            }
             isEnough = false;
             gathered = 0;
-            Arrays.fill(isSeen, (byte) 0);
             for (int p = 0; p < STANDING_MOST; p++) {
                 if (state.fact[p].kind != NONE) {
                     add(state.fact[p]);

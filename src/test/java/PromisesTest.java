@@ -157,6 +157,9 @@ public final class PromisesTest {
         e.say(38, 7, NONE, NONE, NONE, NONE);
         fails('A', () -> e.say(40, 1, 1, 1, 1, 1));
         fails('A', () -> e.say(1, -2, 1, 1, 1, 1));
+        fails('A', () -> e.say(1, 1, 40, 1, 1, 1));
+        fails('A', () -> e.say(1, 1, 1, -2, 1, 1));
+        fails('A', () -> e.say(1, 1, 1, 1, 40, 1));
         fails('A', () -> e.say(1, 1, 1, 1, 1, 40));
         due("7", e.typed());
         due(0, e.house(10));
@@ -518,6 +521,87 @@ public final class PromisesTest {
         due("Au>Eu,$u,@1", e.text(0));
         due(1, e.ofRule(0, 7));
         due(true, e.isSound());
+        // Windows, the minutes of facts, their numbers, what is written and the stack come back.
+        Ruleengine f = with("A1 A2");
+        f.pass(4);
+        f.tell(0, 3, 0, 0);
+        f.window(0, 50, 3);
+        f.window(0, 4, 1);
+        due("A3", f.facts(0));
+        f.undo();
+        due("A1 A2 A3", f.facts(0));
+        due(4, f.ofFact(2, 4));
+        due(0, f.pass(45));
+        due(2, f.pass(1));
+        f.undo();
+        f.tell(0, 4, 0, 0);
+        due("A2 A3 A4", f.facts(0));
+        due(1, f.find(0, 2, 0, 0));
+        f.undo();
+        f.take(0);
+        f.tell(4, 7, 0, 0);
+        f.undo();
+        f.undo();
+        due(0, f.find(0, 1, 0, 0));
+        due(0, f.ofFact(0, 4));
+        due("A1 A2 A3", f.facts(NONE));
+        Ruleengine g = with("A1 A2", "A1>$1,$2,@2", "A2>$3,$4,@1");
+        put(g, 2, 0, 2, "A1,!E7>$8,@0,@1");
+        put(g, 3, 0, 1, "A2,!E8>$9,@2");
+        g.focus(2);
+        g.focus(1);
+        due(3, g.step());
+        due("9", g.written());
+        due(2, g.step());
+        due("9 8", g.written());
+        due(5, g.house(4));
+        due(1, g.step());
+        due("9 8 3 4", g.written());
+        due(5, g.house(4));
+        due(0, g.house(5));
+        g.undo();
+        due("9 8", g.written());
+        due(5, g.house(4));
+        due(0, g.house(5));
+        g.undo();
+        due("9", g.written());
+        due(4, g.house(4));
+        due(2, g.house(5));
+        g.undo();
+        due("", g.written());
+        due(3, g.house(4));
+        due(1, g.house(5));
+        Ruleengine stack = with("A1", "A1>@1,$1,$2");
+        put(stack, 1, 0, 2, "E1>$3");
+        stack.focus(2);
+        stack.focus(1);
+        due(0, stack.step());
+        due(2, stack.house(4));
+        stack.undo();
+        stack.tell(4, 1, 0, 0);
+        due(1, stack.step());
+        due("3", stack.written());
+        due(0, stack.step());
+        due("3 1 2", stack.written());
+        stack.undo();
+        due("3", stack.written());
+        // Many done matches, and back.
+        Ruleengine h = with("A0 A1 A2 A3 A4 A5", "Au,Av>Eu,Ev");
+        due(30, h.run(30, false));
+        due(30, h.house(3));
+        h.run(2, false);
+        h.undo();
+        due(30, h.house(3));
+        due(6, h.house(2));
+        due(5, h.run(5, false));
+        h.undo();
+        h.undo();
+        due(0, h.house(3));
+        due(36, h.house(2));
+        due(true, h.isSound());
+        due(30, h.run(30, false));
+        due(6, h.run(30, false));
+        due(11, h.ofFact(h.find(4, 3, 0, 0), 6));
     }
 
     private static void promise14() {
@@ -741,6 +825,17 @@ public final class PromisesTest {
         for (int n = 0; n < all.length; n++) {
             due(all[n], f.match(n));
         }
+        Ruleengine none = with("A1", "1=1>%", "A_>%");
+        due("1:0", none.match(0));
+        due("0:", none.match(1));
+        Ruleengine large = with("A0 A1 A2 A3 A4 A5 A6 A7 A8 A9", "Au,Av>%");
+        due("0:0,9", large.match(0));
+        due("0:8,9", large.match(8));
+        due("0:9,0", large.match(9));
+        due("0:0,1", large.match(96));
+        due("0:1,1", large.match(98));
+        due("0:0,0", large.match(99));
+        due("", large.match(100));
         Ruleengine g = with("A1", "#uA_>%");
         g.step();
         due("", g.match(0));
@@ -774,6 +869,14 @@ public final class PromisesTest {
         due(0, most.layer(0));
         fails('A', () -> e.layer(-1));
         fails('A', () -> e.layer(6));
+        Ruleengine less = with("", "!A_>E1", "!E_>F11", "!F__>C11");
+        due(3, less.layer(2));
+        less.drop(1);
+        due(1, less.layer(2));
+        due(1, less.ofRule(2, 5));
+        due(0, less.layer(5));
+        less.undo();
+        due(3, less.ofRule(2, 5));
         Ruleengine f = with("", "Au>Eu", "Eu>Au", "+uvAv>Cuu");
         due(0, f.layer(0));
         due(1, f.layer(2));
@@ -856,6 +959,19 @@ public final class PromisesTest {
         fails('I', () -> e.why(-1, 9));
         fails('A', () -> e.why(0, -1));
         fails('A', () -> e.why(0, 5));
+        // Slot 0 gives a reason, too, but by a fact of a rank that is not smaller.
+        Ruleengine ring = with("A1", "Fuu>Eu", "Au>Eu", "Eu>Fuu");
+        due(3, ring.run(30, false));
+        due(2, ring.ofFact(1, 6));
+        due("E1(1 A1!)", ring.why(1, 4));
+        Ruleengine same = with("E1", "Eu>A1,C11", "Au>C11", "Cuu>A1");
+        due(3, same.run(30, false));
+        due("A1(0 E1!)", same.why(same.find(0, 1, 0, 0), 4));
+        due(1, same.ofFact(same.find(2, 1, 1, 0), 7));
+        due("C11(0 E1!)", same.why(same.find(2, 1, 1, 0), 4));
+        Ruleengine later = with("E1", "Au>C11", "Eu>A1,C11");
+        due(2, later.run(30, false));
+        due("C11(1 E1!)", later.why(later.find(2, 1, 1, 0), 4));
         Ruleengine f = with("", "!A_>E1");
         f.step();
         due("E1(0)", f.why(0, 1));
@@ -905,6 +1021,9 @@ public final class PromisesTest {
         due(MANY, many.could(1, 5, 6, 0, 3));
         due(1, many.could(0, 1, 0, 0, 0));
         due(0, many.could(1, 5, 4, 0, 0));
+        many.take(0);
+        due(1, many.could(1, 5, 4, 0, 1));
+        due(0, many.could(1, 1, 4, 0, 1));
     }
 
     private static void promise29() {
@@ -1045,6 +1164,19 @@ public final class PromisesTest {
         int changes = e.house(10);
         e.digest();
         due(changes, e.house(10));
+        Ruleengine one = with("E1", "E1>A1", "B22>B12", "Eu,Ev>%");
+        due(digestOf(one), one.digest());
+        Ruleengine two = with("E1", "E1>B12");
+        due(digestOf(two), two.digest());
+        Ruleengine three = with("E1", "E1>A0,A2,B02", "E1>B22,B11,B10", "E1>B13,C12,A2");
+        due(digestOf(three), three.digest());
+        Ruleengine four = with("A1 A2 A3 A4 A5 A6", "Au,Av>Buv", "E2>%");
+        tell(four, "E2");
+        due("1:6", four.match(0));
+        due(-5, four.could(0, 1, 0, 0, 1));
+        due(digestOf(four), four.digest());
+        type(four, "A1>");
+        due(digestOf(four), four.digest());
     }
 
     private static void settling() {
@@ -1170,6 +1302,12 @@ public final class PromisesTest {
         due("4:", q.match(3));
         due("5:;1;3", q.match(4));
         due(1, with("", "*Buu>%").ofRule(0, 6));
+        due(2, with("D121 D122 D112 D123 D111", "Duvu>%").ofRule(0, 6));
+        due(2, with("D121 D122 D112 D123 D111", "Duvv>%").ofRule(0, 6));
+        due(2, with("D121 D122 D112 D123 D111", "Duuv>%").ofRule(0, 6));
+        due(1, with("D121 D122 D112 D123 D111", "Dzzz>%").ofRule(0, 6));
+        due(3, with("D121 D122 D112 D123 D111", "D12_>%").ofRule(0, 6));
+        due(4, with("D121 D122 D112 D123 D111 E1 E2", "Ev,Dvvu,Ew>%").ofRule(0, 6));
         // A variable of a count that has a value ahead.
         Ruleengine r = with("A2 E1 E2", "Au,#uE_>%", "Au,+uvEv>%", "#uE_,Au>%");
         due(1, r.ofRule(0, 6));

@@ -2066,6 +2066,7 @@ public final class Ruleengine {
             }
         }
 
+        /** Answers whether the rule has risen; what it puts or tells rises with it alone. */
         private boolean lift(Rule rule, int slot) {
             int least = ofRule[slot];
             for (int c = 0; c < rule.conditionCount; c++) {
@@ -2079,9 +2080,8 @@ public final class Ruleengine {
             ofRule[slot] = least;
             for (int a = 0; a < rule.actCount; a++) {
                 Part part = rule.act[a];
-                if ((part.sort == PUT || part.sort == TELL) && ofKind[part.atom.kind] < least) {
-                    ofKind[part.atom.kind] = least;
-                    isRisen = true;
+                if (part.sort == PUT || part.sort == TELL) {
+                    ofKind[part.atom.kind] = Math.max(ofKind[part.atom.kind], least);
                 }
             }
             return isRisen;

@@ -220,9 +220,16 @@ public final class PromisesTest {
         fails('I', () -> e.drop(0));
         fails('I', () -> e.drop(-1));
         fails('I', () -> e.drop(6));
+        // Put in again, it is another rule: nothing of it is done.
         due(2, put(e, 0, "Au>Eu"));
         due(2, e.house(2));
-        due(0, e.drop(0));
+        due("0:1", e.match(0));
+        due(0, e.step());
+        due(1, e.drop(0));
+        due(0, e.house(2));
+        due(4, put(e, 0, "Au,Av>Eu"));
+        due(4, e.run(30, false));
+        due(2, e.drop(0));
     }
 
     private static void promise5() {
@@ -972,6 +979,14 @@ public final class PromisesTest {
         Ruleengine later = with("E1", "Au>C11", "Eu>A1,C11");
         due(2, later.run(30, false));
         due("C11(1 E1!)", later.why(later.find(2, 1, 1, 0), 4));
+        Ruleengine back = with("A1 A2", "Au>E1");
+        due(2, back.run(30, false));
+        back.take(0);
+        back.tell(0, 9, 0, 0);
+        due("A2 E1 A9", back.facts(NONE));
+        back.undo();
+        back.undo();
+        due("E1(0 A1!)", back.why(2, 1));
         Ruleengine f = with("", "!A_>E1");
         f.step();
         due("E1(0)", f.why(0, 1));
@@ -1024,6 +1039,14 @@ public final class PromisesTest {
         many.take(0);
         due(1, many.could(1, 5, 4, 0, 1));
         due(0, many.could(1, 1, 4, 0, 1));
+        many.undo();
+        due(MANY, many.could(1, 5, 4, 0, 1));
+        many.window(0, 1, 0);
+        many.window(3, 1, 0);
+        many.window(4, 1, 0);
+        many.pass(1);
+        due("", many.facts(NONE));
+        due(0, many.could(1, 5, 4, 0, 3));
     }
 
     private static void promise29() {
@@ -1036,6 +1059,8 @@ public final class PromisesTest {
         due("5 0 5 4 0 4 3 0 3 2 0 2", e.written());
         e.step();
         due("4 0 4 3 0 3 2 0 2 1 0 1", e.written());
+        e.undo();
+        due("5 0 5 4 0 4 3 0 3 2 0 2", e.written());
         Ruleengine f = with("A9 A8 A7", "+uvAv>$u,Eu");
         f.step();
         due("24", f.written());
@@ -1136,6 +1161,12 @@ public final class PromisesTest {
         return d * 31 + (e.isSound() ? 1 : 0);
     }
 
+    private static void isDigest(Ruleengine e) {
+        long got = e.digest();
+        due(digestOf(e), got);
+        due(got, e.digest());
+    }
+
     private static void promise32() {
         part = "promise 32";
         Ruleengine e = new Ruleengine();
@@ -1153,30 +1184,30 @@ public final class PromisesTest {
         put(e, 4, -2, 1, "Eu>Duuu,B12,@2");
         tell(e, "A1 A2 B34 B07 F99");
         e.focus(1);
-        due(digestOf(e), e.digest());
+        isDigest(e);
         e.pass(8);
         for (int i = 0; i < 5; i++) {
             e.run(1 + i, i % 2 == 1);
-            due(digestOf(e), e.digest());
+            isDigest(e);
             e.take(i);
-            due(digestOf(e), e.digest());
+            isDigest(e);
         }
         int changes = e.house(10);
         e.digest();
         due(changes, e.house(10));
         Ruleengine one = with("E1", "E1>A1", "B22>B12", "Eu,Ev>%");
-        due(digestOf(one), one.digest());
+        isDigest(one);
         Ruleengine two = with("E1", "E1>B12");
-        due(digestOf(two), two.digest());
+        isDigest(two);
         Ruleengine three = with("E1", "E1>A0,A2,B02", "E1>B22,B11,B10", "E1>B13,C12,A2");
-        due(digestOf(three), three.digest());
+        isDigest(three);
         Ruleengine four = with("A1 A2 A3 A4 A5 A6", "Au,Av>Buv", "E2>%");
         tell(four, "E2");
         due("1:6", four.match(0));
         due(-5, four.could(0, 1, 0, 0, 1));
-        due(digestOf(four), four.digest());
+        isDigest(four);
         type(four, "A1>");
-        due(digestOf(four), four.digest());
+        isDigest(four);
     }
 
     private static void settling() {

@@ -1459,7 +1459,7 @@ public final class Ruleengine {
                 refresh(s);
                 int count = 0;
                 int keyCount = rule == null ? 0 : rule.keyCount();
-                for (int key = 0; key < keyCount; key += keysToNext(key, keyCount)) {
+                for (int key = 0; key < keyCount; key += Math.max(1, keysToNext(key, keyCount))) {
                     if (signature(rule, key) != NONE) {
                         if (count >= foundCount[s] || found[s][count] != key) {
                             return false;

@@ -1139,6 +1139,22 @@ public final class BoundariesTest {
         for (int n = 0; n < all.length; n++) {
             due(all[n], f.match(n));
         }
+        // The greatest and the least urgency, the newest and the oldest of sixteen.
+        Ruleengine full = new Ruleengine();
+        put(full, 0, -9, 0, "B15>$1");
+        put(full, 1, 9, 0, "B00>$2");
+        put(full, 2, -9, 0, "B00>$3");
+        put(full, 3, 9, 0, "1=1>$4");
+        put(full, 4, 9, 0, "B15>$5");
+        for (int i = 0; i < 16; i++) {
+            full.tell(1, i / 10, i % 10, 0);
+        }
+        String[] sixteen = {"4:15", "1:0", "3:", "0:15", "2:0", ""};
+        for (int n = 0; n < sixteen.length; n++) {
+            due(sixteen[n], full.match(n));
+        }
+        due(5, full.run(30, false));
+        due("5 2 4 1 3", full.written());
         // The first HAS, the second, the third: by numbers, wherever the facts are held.
         Ruleengine g = with("A1 A2 A3", "Au,Av,Aw>%");
         g.take(0);

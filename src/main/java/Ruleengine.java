@@ -540,10 +540,10 @@ public final class Ruleengine {
                 best = matches.best(layers.slotsIn(least));
             }
         } else {
-            best = matches.best(state.slotsOf(state.stack[size - 1]));
+            best = matches.best(state.slotsOf(state.moduleAt(size)));
             while (best == NONE && size > 1) {
                 size--;
-                best = matches.best(state.slotsOf(state.stack[size - 1]));
+                best = matches.best(state.slotsOf(state.moduleAt(size)));
             }
         }
         if (best == NONE) {
@@ -1146,24 +1146,24 @@ public final class Ruleengine {
         abstract void meet(Rule rule, int key);
 
         /** Goes on from a partial match of the conditions ahead of c, whose places make the key. */
-        void extend(Rule rule, int c, int key) {
-            if (c >= rule.conditionCount) {
-                meet(rule, key);
+        private static void extend(Search search, Rule rule, int c, int key) {
+            if (c >= rule.conditionCount || c >= CONDITIONS_MOST) {
+                search.meet(rule, key);
                 return;
             }
             Part part = rule.condition[c];
             if (part.sort != HAS) {
-                if (outcome(part) != NONE) {
-                    reached[c]++;
-                    extend(rule, c + 1, key);
+                if (search.outcome(part) != NONE) {
+                    search.reached[c]++;
+                    extend(search, rule, c + 1, key);
                 }
                 return;
             }
-            for (int p = 0; p < poolSize && !isEnough; p++) {
-                if (part.atom.fits(pool[p], values)) {
-                    part.atom.bind(pool[p], values);
-                    reached[c]++;
-                    extend(rule, c + 1, key << 4 | p & 15);
+            for (int p = 0; p < search.poolSize && !search.isEnough; p++) {
+                if (part.atom.fits(search.pool[p], search.values)) {
+                    part.atom.bind(search.pool[p], search.values);
+                    search.reached[c]++;
+                    extend(search, rule, c + 1, key << 4 | p & 15);
                 }
             }
         }
@@ -1283,7 +1283,7 @@ public final class Ruleengine {
             foundCount[of] = 0;
             if (rule != null) {
                 Arrays.fill(reached, 0);
-                extend(rule, 0, 0);
+                Search.extend(this, rule, 0, 0);
                 System.arraycopy(reached, 0, partial[of], 0, CONDITIONS_MOST);
             }
             isFresh[of] = true;
@@ -1520,7 +1520,7 @@ public final class Ruleengine {
                 poolSize = gathered;
                 for (int s = 0; s < SLOTS && !isEnough; s++) {
                     if (state.rule[s] != null) {
-                        extend(state.rule[s], 0, 0);
+                        Search.extend(this, state.rule[s], 0, 0);
                     }
                 }
             }
@@ -1756,7 +1756,12 @@ public final class Ruleengine {
         }
 
         int top() {
-            return stackSize >= 1 && stackSize <= STACK_MOST ? stack[stackSize - 1] : 0;
+            return moduleAt(stackSize);
+        }
+
+        /** The last one of so many modules. */
+        int moduleAt(int size) {
+            return size >= 1 && size <= STACK_MOST ? stack[size - 1] : 0;
         }
 
         boolean canPush(int module) {

@@ -1262,6 +1262,10 @@ public final class Ruleengine {
             }
         }
 
+        private boolean isMarked(int of, int key) {
+            return key < isDone[of].length && isDone[of][key] == 1;
+        }
+
         /** A fact of that kind came or went. */
         void touch(int kind) {
             isAged = false;
@@ -1358,7 +1362,7 @@ public final class Ruleengine {
                 refresh(s);
                 for (int i = 0; i < foundCount[s]; i++) {
                     int key = found[s][i];
-                    if (isDone[s][key] == 0) {
+                    if (!isMarked(s, key)) {
                         int order = orderOf(s, rule, key);
                         least = least == NONE ? order : Math.min(least, order);
                     }
@@ -1392,7 +1396,7 @@ public final class Ruleengine {
                 Rule rule = state.rule[s];
                 for (int i = 0; rule != null && i < foundCount[s]; i++) {
                     int key = found[s][i];
-                    if (isDone[s][key] == 0 && count < agenda.length) {
+                    if (!isMarked(s, key) && count < agenda.length) {
                         agenda[count] = orderOf(s, rule, key);
                         count++;
                     }
